@@ -689,6 +689,11 @@ public final class PromiseTests {
         x.either(1, 2, 3);
         // 3 letters of 6, but 5 + 2 + 2 + 1 words of 36.
         due("22: ring of 5 or one more", x.best(3), 2);
+        // 5 letters of 8, but 5 + 6 + 6 + 9 words of all 64.
+        x.net(4, 3);
+        x.either(1, 4, 3);
+        due("22: with 64 words", x.best(3), 2);
+        due("22: with 64 words", x.most(3, 2), 26);
         due("22: no such", x.best(8), RANGE);
         due("22: no such", x.best(-1), RANGE);
         for (int far : FAR) {
