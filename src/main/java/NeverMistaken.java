@@ -110,10 +110,11 @@ public final class NeverMistaken {
     public int told(int l) {
         Line line = lineAt(l);
         if (line == null) {
+            tape.empty();
             return RANGE;
         }
         text.read(tape);
-        tape.length = 0;
+        tape.empty();
         if (text.fault != 0) {
             return NONE;
         }
@@ -342,12 +343,12 @@ public final class NeverMistaken {
     }
 
     public int came(int l) {
+        int signs = text.readSigns(tape);
+        tape.empty();
         Line line = lineAt(l);
         if (line == null) {
             return RANGE;
         }
-        int signs = text.readSigns(tape);
-        tape.length = 0;
         if (line.kind != TOLD || latestCode.line != l || latestCode.age != line.age) {
             return STATE;
         }
@@ -492,6 +493,11 @@ public final class NeverMistaken {
 
         final int[] bytes = new int[ROOM];
         int length = 0;
+
+        /** A call that reads the tape leaves it empty, whatever it answers. */
+        void empty() {
+            length = 0;
+        }
 
         boolean hasRoomFor(int more) {
             return length + more <= ROOM;

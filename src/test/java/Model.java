@@ -119,11 +119,11 @@ final class Model {
     }
 
     int told(int l) {
+        List<Integer> text = new ArrayList<>(tape);
+        tape.clear();
         if (!isLine(l)) {
             return RANGE;
         }
-        List<Integer> text = new ArrayList<>(tape);
-        tape.clear();
         fault = 0;
         place = NONE;
         List<TreeSet<Integer>> signs = new ArrayList<>();
@@ -535,11 +535,11 @@ final class Model {
     }
 
     int came(int l) {
+        List<Integer> text = new ArrayList<>(tape);
+        tape.clear();
         if (!isLine(l)) {
             return RANGE;
         }
-        List<Integer> text = new ArrayList<>(tape);
-        tape.clear();
         if (lines[l].kind != 1 || code == null || codeAt != l || codeLine != lines[l]) {
             return STATE;
         }

@@ -211,10 +211,18 @@ public final class PromiseTests {
         due("7: the line stays", x.about(2, 0), 3);
         Check.tape(x, "a;b");
         due("7: no such line", x.told(8), RANGE);
-        due("7: then the tape is not read", x.count(0), 3);
-        due("7: nor its fault", x.fault(0), 2);
+        due("7: then too the tape is empty", x.count(0), 0);
+        due("7: but the latest fault stays", x.fault(0), 2);
+        due("7: at its place", x.fault(1), 0);
+        x.feed(0, 0, 0, 0, 0);
         due("7: no such line", x.told(-1), RANGE);
-        due("7: the line of it", x.told(3), 2);
+        due("7: the next bytes come first", x.feed(0, 0, 0, 0, 0), 20);
+        for (int far : FAR) {
+            Check.tape(x, "a;b");
+            due("7: far", x.told(far), RANGE);
+            due("7: far, the tape is empty", x.count(0), 0);
+        }
+        due("7: the line of it", Check.tell(x, 3, "a;b"), 2);
         due("7: fault", Check.tell(x, 3, "a;;b"), NONE);
         due("7: the tape is read all the same", x.count(0), 0);
         due("7: the line stays", x.about(3, 0), 2);
@@ -772,10 +780,17 @@ public final class PromiseTests {
         due("24: a sign that never comes", Check.read(x, 0, "cx"), 0);
         Check.tape(x, "cd");
         due("24: no such line", x.came(8), RANGE);
+        due("24: then too the tape is empty", x.count(0), 0);
+        x.feed(0, 0, 0, 0, 0);
         due("24: no such line", x.came(-1), RANGE);
-        due("24: then the tape is not read", x.count(0), 2);
+        due("24: the next bytes come first", x.feed(0, 0, 0, 0, 0), 20);
+        for (int far : FAR) {
+            Check.tape(x, "cd");
+            due("24: far", x.came(far), RANGE);
+            due("24: far, the tape is empty", x.count(0), 0);
+        }
         x.most(0, 4);
-        due("24: FULL is no number", x.came(0), 1);
+        due("24: FULL is no number", Check.read(x, 0, "cd"), 1);
         Check.tell(x, 0, "ab;;");
         due("24: a fault is not told anew", Check.read(x, 0, "cd"), 1);
         Check.tell(x, 1, "ab;bc;cd;da");
