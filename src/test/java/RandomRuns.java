@@ -139,6 +139,7 @@ public final class RandomRuns {
         tape(text.toString());
         int l = line();
         due("told(" + l + ")", x.told(l), m.told(l));
+        due("count(0)", x.count(0), m.count(0));
         for (int what = -1; what <= 2; what++) {
             due("fault(" + what + ")", x.fault(what), m.fault(what));
         }
@@ -277,6 +278,7 @@ public final class RandomRuns {
             tape(text.toString());
             int at = random.nextInt(12) == 0 ? line() : l;
             due("came(" + at + ")", x.came(at), m.came(at));
+            due("count(0)", x.count(0), m.count(0));
             due("sent()", x.sent(), m.sent());
         }
     }
