@@ -53,7 +53,11 @@ public final class RandomRuns {
     }
 
     private int line() {
-        return random.nextInt(40) == 0 ? near(8) : random.nextInt(3);
+        int kind = random.nextInt(40);
+        if (kind == 0) {
+            return random.nextBoolean() ? -1 : 8;
+        }
+        return kind == 1 ? near(8) : random.nextInt(3);
     }
 
     private int lettersOf(int l) {
