@@ -62,4 +62,19 @@ final class Check {
         tape(x, text);
         return x.came(l);
     }
+
+    /** Line l is a net of so many letters with these pairs mistaken. */
+    static void net(NeverMistaken x, int l, int letters, int... pairs) {
+        x.net(l, letters);
+        for (int i = 0; i + 1 < pairs.length; i += 2) {
+            x.mistake(l, pairs[i], pairs[i + 1], true);
+        }
+    }
+
+    /** The first numbers of a letter's row, or of the handle (-1). */
+    static void row(NeverMistaken x, int l, int a, int... v) {
+        for (int i = 0; i < v.length; i++) {
+            x.row(l, a, i, v[i]);
+        }
+    }
 }

@@ -44,19 +44,6 @@ public final class PromiseTests {
         check.due(what, got, want);
     }
 
-    private static void letters(NeverMistaken x, int l, int letters, int... pairs) {
-        x.net(l, letters);
-        for (int i = 0; i + 1 < pairs.length; i += 2) {
-            x.mistake(l, pairs[i], pairs[i + 1], true);
-        }
-    }
-
-    private static void numbers(NeverMistaken x, int l, int a, int... v) {
-        for (int i = 0; i < v.length; i++) {
-            x.row(l, a, i, v[i]);
-        }
-    }
-
     private static void newObject() {
         NeverMistaken x = new NeverMistaken();
         for (int l = 0; l < 8; l++) {
@@ -287,8 +274,8 @@ public final class PromiseTests {
 
     private static void both() {
         NeverMistaken x = new NeverMistaken();
-        letters(x, 0, 2, 0, 1);
-        letters(x, 1, 3, 0, 2);
+        Check.net(x, 0, 2, 0, 1);
+        Check.net(x, 1, 3, 0, 2);
         due("9: six", x.both(0, 1, 2), 6);
         due("9: kind", x.about(2, 1), 0);
         due("9: (0, 0)", x.about(2, 10), 0b101101 & ~1);
@@ -321,7 +308,7 @@ public final class PromiseTests {
 
     private static void either() {
         NeverMistaken x = new NeverMistaken();
-        letters(x, 0, 2, 0, 1);
+        Check.net(x, 0, 2, 0, 1);
         x.ring(1, 4);
         due("10: six", x.either(0, 1, 2), 6);
         due("10: kind", x.about(2, 1), 0);
@@ -419,11 +406,11 @@ public final class PromiseTests {
         x.ring(0, 5);
         mostOf(x, 0, 1, 0, 2);
         mostOf(x, 0, 2, 0, 7, 14, 16, 23);
-        letters(x, 1, 5, 0, 1, 0, 2, 0, 3, 0, 4);
+        Check.net(x, 1, 5, 0, 1, 0, 2, 0, 3, 0, 4);
         mostOf(x, 1, 1, 1, 2, 3, 4);
-        letters(x, 1, 4, 0, 1, 1, 2, 2, 3);
+        Check.net(x, 1, 4, 0, 1, 1, 2, 2, 3);
         mostOf(x, 1, 1, 0, 2);
-        letters(x, 2, 2, 0, 1);
+        Check.net(x, 2, 2, 0, 1);
         mostOf(x, 2, 6, 0);
         x.net(2, 2);
         due("13: 64 words apart", x.most(2, 6), 64);
@@ -449,7 +436,7 @@ public final class PromiseTests {
         due("14: ahead of any", x.word(0), NONE);
         x.most(9, 1);
         due("14: RANGE tells none", x.word(0), NONE);
-        letters(x, 0, 3, 0, 1);
+        Check.net(x, 0, 3, 0, 1);
         x.most(0, 1);
         due("14: first", x.word(0), 0);
         due("14: second", x.word(1), 2);
@@ -489,7 +476,7 @@ public final class PromiseTests {
             x.mistake(0, a + 1, a + 2, true);
         }
         due("15: eight threes", x.ways(0, 1), 6561);
-        letters(x, 1, 2, 0, 1);
+        Check.net(x, 1, 2, 0, 1);
         due("15: pairs of a pair", x.ways(1, 4), 16);
         due("15: 32 words", x.ways(1, 5), FULL);
         due("15: no such", x.ways(1, 0), RANGE);
@@ -520,9 +507,9 @@ public final class PromiseTests {
         x.ring(0, 6);
         heapsOf(x, 0, 3, 0, 0, 1, 1, 2, 2);
         // 0 and 1 in one heap would leave 2 and 3 alone.
-        letters(x, 1, 4, 0, 1, 0, 2, 1, 3);
+        Check.net(x, 1, 4, 0, 1, 0, 2, 1, 3);
         heapsOf(x, 1, 2, 0, 1, 0, 1);
-        letters(x, 1, 4, 0, 3);
+        Check.net(x, 1, 4, 0, 3);
         heapsOf(x, 1, 3, 0, 1, 2, 0);
         x.net(2, 24);
         due("16: all apart", x.heaps(2), 24);
@@ -582,33 +569,33 @@ public final class PromiseTests {
         NeverMistaken x = new NeverMistaken();
         due("19: all 0", x.stands(0), 10000);
         x.net(0, 3);
-        numbers(x, 0, 1, 1, 1);
-        numbers(x, 0, 2, 1, 1);
+        Check.row(x, 0, 1, 1, 1);
+        Check.row(x, 0, 2, 1, 1);
         due("19: 1 and 2", x.stands(0), 102);
-        numbers(x, 0, 0, 2, 0);
+        Check.row(x, 0, 0, 2, 0);
         due("19: 0 and 1", x.stands(0), 1);
-        numbers(x, 0, 0, 1, -1);
+        Check.row(x, 0, 0, 1, -1);
         due("19: 1 and 2", x.stands(0), 102);
-        numbers(x, 0, 2, 0, 0, 4);
+        Check.row(x, 0, 2, 0, 0, 4);
         due("19: the handle", x.stands(0), 10000);
-        numbers(x, 0, -1, 1, 0);
+        Check.row(x, 0, -1, 1, 0);
         due("19: the handle", x.stands(0), 10002);
-        numbers(x, 0, -1, 1, 0, -1);
+        Check.row(x, 0, -1, 1, 0, -1);
         due("19: stand", x.stands(0), NONE);
         x.ring(1, 4);
         for (int a = 0; a < 4; a++) {
-            numbers(x, 1, a, 1);
+            Check.row(x, 1, a, 1);
         }
         due("19: mistaken ones are free", x.stands(1), 2);
         x.ring(1, 3);
         for (int a = 0; a < 3; a++) {
-            numbers(x, 1, a, 1);
+            Check.row(x, 1, a, 1);
         }
-        numbers(x, 1, -1, -30);
+        Check.row(x, 1, -1, -30);
         due("19: mistaken ones are free", x.stands(1), NONE);
         x.net(2, 24);
-        numbers(x, 2, 22, 0, 0, 0, 0, 0, 30);
-        numbers(x, 2, 23, 0, 0, 0, 0, 0, 30);
+        Check.row(x, 2, 22, 0, 0, 0, 0, 0, 30);
+        Check.row(x, 2, 23, 0, 0, 0, 0, 0, 30);
         due("19: the last pair", x.stands(2), 2223);
         due("19: no such", x.stands(8), RANGE);
         for (int far : FAR) {
@@ -628,28 +615,28 @@ public final class PromiseTests {
         due("20: no such", x.bound(0, 3), RANGE);
         due("20: no such", x.bound(0, -1), RANGE);
         due("20: no such", x.bound(8, 0), RANGE);
-        numbers(x, 0, 0, 3, 4);
-        numbers(x, 0, -1, 1, 2);
+        Check.row(x, 0, 0, 3, 4);
+        Check.row(x, 0, -1, 1, 2);
         boundOf(x, 0, 125, 121, 0);
-        numbers(x, 0, -1, -6, -8);
+        Check.row(x, 0, -1, -6, -8);
         boundOf(x, 0, 1, 1, 0);
         x.net(1, 3);
-        numbers(x, 1, 0, 5);
-        numbers(x, 1, 1, 0, -7);
-        numbers(x, 1, 2, 0, 0, 1);
-        numbers(x, 1, -1, 2, 1, 1);
+        Check.row(x, 1, 0, 5);
+        Check.row(x, 1, 1, 0, -7);
+        Check.row(x, 1, 2, 0, 0, 1);
+        Check.row(x, 1, -1, 2, 1, 1);
         boundOf(x, 1, 6, 1, 1);
-        numbers(x, 1, -1, 2, 2, 3);
+        Check.row(x, 1, -1, 2, 2, 3);
         boundOf(x, 1, 17, 4, 0);
         x.ring(2, 3);
-        numbers(x, 2, 0, 30, 30, 30, 30, 30, 30);
-        numbers(x, 2, 1, 30, 30, 30, 30, 30, 29);
-        numbers(x, 2, 2, 30, 30, 30, 30, -30, -29);
-        numbers(x, 2, -1, 30, 30, 30, 30, 30, 30);
+        Check.row(x, 2, 0, 30, 30, 30, 30, 30, 30);
+        Check.row(x, 2, 1, 30, 30, 30, 30, 30, 29);
+        Check.row(x, 2, 2, 30, 30, 30, 30, -30, -29);
+        Check.row(x, 2, -1, 30, 30, 30, 30, 30, 30);
         due("20: great numbers", x.bound(2, 2), 2);
         // 5341 times 5400 over 1830 squared, cut by 900.
         boundOf(x, 2, 32046, 3721, 2);
-        numbers(x, 2, 2, 30, 30, 30, -30, -30, -29);
+        Check.row(x, 2, 2, 30, 30, 30, -30, -30, -29);
         boundOf(x, 2, 32046, 1, 2);
     }
 
@@ -710,7 +697,7 @@ public final class PromiseTests {
     }
 
     /** Rows of one and three ones, by pairs apart: their bound is 4, but four heaps are not enough. */
-    private static void fourByRows(NeverMistaken x, int l) {
+    static void fourByRows(NeverMistaken x, int l) {
         int[][] rows = {{1, 0, -1, -1, 1, 0}, {1, -1, 0, 1, 0, 1}, {1, 0, -1, 1, -1, 0}, {1, 0, 1, -1, -1, 0},
             {1, 1, 1, 0, 0, 1}, {1, 0, -1, -1, -1, 0}, {1, 1, 0, 1, 0, -1}, {1, -1, 0, 0, 1, -1},
             {1, -1, 1, 0, 0, -1}, {1, 1, 0, 0, 1, 1}};
@@ -723,16 +710,16 @@ public final class PromiseTests {
             }
         }
         for (int a = 0; a < rows.length; a++) {
-            numbers(x, l, a, rows[a]);
+            Check.row(x, l, a, rows[a]);
         }
-        numbers(x, l, -1, 1);
+        Check.row(x, l, -1, 1);
     }
 
     private static void met() {
         NeverMistaken x = new NeverMistaken();
         due("23: one letter", x.met(0), 1);
-        numbers(x, 0, 0, 2);
-        numbers(x, 0, -1, 3);
+        Check.row(x, 0, 0, 2);
+        Check.row(x, 0, -1, 3);
         due("23: and rows", x.met(0), 3);
         x.ring(1, 5);
         due("23: neither", x.met(1), 0);
@@ -741,11 +728,11 @@ public final class PromiseTests {
         x.ring(1, 8);
         due("23: even ring", x.met(1), 1);
         x.net(2, 2);
-        numbers(x, 2, 0, 1);
-        numbers(x, 2, 1, 0, 1);
-        numbers(x, 2, -1, 2, 1);
+        Check.row(x, 2, 0, 1);
+        Check.row(x, 2, 1, 0, 1);
+        Check.row(x, 2, -1, 2, 1);
         due("23: bound 5 is too high", x.met(2), 1);
-        numbers(x, 2, -1, 1, 1);
+        Check.row(x, 2, -1, 1, 1);
         due("23: bound 2", x.met(2), 3);
         fourByRows(x, 3);
         due("23: stand", x.stands(3), NONE);

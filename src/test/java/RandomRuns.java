@@ -32,9 +32,12 @@ public final class RandomRuns {
         check.close();
     }
 
+    /** A step may go past the last call that is promised; what it answers there is free. */
     private void due(String call, int got, int want) {
         calls++;
-        check.due("run " + run + ", call " + calls + ", " + call, got, want);
+        if (calls <= CALLS) {
+            check.due("run " + run + ", call " + calls + ", " + call, got, want);
+        }
     }
 
     /** Mostly within 0 .. below - 1, at times just or far outside. */

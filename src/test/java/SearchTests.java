@@ -6,6 +6,10 @@ public final class SearchTests {
     private static final Check check = new Check("SearchTests");
     private static final Random random = new Random(20261117L);
 
+    /** Made anew for each line, as an object is promised for 512 calls alone. */
+    private static NeverMistaken x;
+    private static Model m;
+
     public static void main(String[] args) {
         ringsOfTwo();
         eightLetters();
@@ -19,19 +23,23 @@ public final class SearchTests {
         check.close();
     }
 
+    private static void anew() {
+        x = new NeverMistaken();
+        m = new Model();
+    }
+
     private static void ringsOfTwo() {
         int[] largest = {0, 0, 0, 1, 4, 5, 9, 10, 16};
-        NeverMistaken x = new NeverMistaken();
-        Model m = new Model();
         for (int n = 3; n <= 8; n++) {
+            anew();
             x.ring(0, n);
             m.ring(0, n);
             check.due("ring of " + n, x.most(0, 2), largest[n]);
-            sameCode(x, m, 0, 2);
+            sameCode(0, 2);
         }
     }
 
-    private static void sameCode(NeverMistaken x, Model m, int l, int k) {
+    private static void sameCode(int l, int k) {
         List<Integer> code = Model.leastLargest(m.lines[l], k);
         check.due("size", x.most(l, k), code.size());
         for (int i = 0; i < code.size(); i++) {
@@ -39,7 +47,8 @@ public final class SearchTests {
         }
     }
 
-    private static void randomLine(NeverMistaken x, Model m, int n, int percent) {
+    private static void randomLine(int n, int percent) {
+        anew();
         x.net(0, n);
         m.net(0, n);
         for (int a = 0; a < n; a++) {
@@ -52,35 +61,29 @@ public final class SearchTests {
     }
 
     private static void eightLetters() {
-        NeverMistaken x = new NeverMistaken();
-        Model m = new Model();
         for (int i = 0; i < 300; i++) {
-            randomLine(x, m, 7 + i % 2, 30 + i % 60);
-            sameCode(x, m, 0, 2);
+            randomLine(7 + i % 2, 30 + i % 60);
+            sameCode(0, 2);
         }
     }
 
     private static void fourLetters() {
-        NeverMistaken x = new NeverMistaken();
-        Model m = new Model();
         for (int i = 0; i < 60; i++) {
-            randomLine(x, m, 3 + i % 2, 30 + i % 60);
-            sameCode(x, m, 0, 3);
+            randomLine(3 + i % 2, 30 + i % 60);
+            sameCode(0, 3);
         }
     }
 
     private static void manyLetters() {
-        NeverMistaken x = new NeverMistaken();
-        Model m = new Model();
         for (int i = 0; i < 400; i++) {
-            randomLine(x, m, 16 + i % 9, 3 + i % 95);
-            sameCode(x, m, 0, 1);
+            randomLine(16 + i % 9, 3 + i % 95);
+            sameCode(0, 1);
         }
     }
 
     private static void ringsInHeaps() {
-        NeverMistaken x = new NeverMistaken();
         for (int n = 4; n <= 24; n++) {
+            anew();
             x.ring(0, n);
             check.due("ring of " + n, x.heaps(0), (n + 1) / 2);
             for (int a = 0; a < n; a++) {
@@ -91,20 +94,20 @@ public final class SearchTests {
 
     /** With 24 letters: heaps hold only mistaken ones, and the least row is as the plain way finds it. */
     private static void heapsThatHold() {
-        NeverMistaken x = new NeverMistaken();
-        Model m = new Model();
         for (int i = 0; i < 300; i++) {
             int n = i < 200 ? 8 + i % 6 : 24;
-            randomLine(x, m, n, 20 + i % 76);
+            randomLine(n, 20 + i % 76);
             int fewest = x.heaps(0);
-            int[] row = n < 24 ? Model.leastHeaps(m.lines[0]) : null;
+            int[] least = n < 24 ? Model.leastHeaps(m.lines[0]) : null;
+            int[] row = new int[n];
             int used = 0;
             for (int a = 0; a < n; a++) {
-                check.holds("numbered as they come", x.heap(a) >= 0 && x.heap(a) <= used);
-                used = Math.max(used, x.heap(a) + 1);
-                check.due("least row", x.heap(a), row == null ? x.heap(a) : row[a]);
+                row[a] = x.heap(a);
+                check.holds("numbered as they come", row[a] >= 0 && row[a] <= used);
+                used = Math.max(used, row[a] + 1);
+                check.due("least row", row[a], least == null ? row[a] : least[a]);
                 for (int b = 0; b < a; b++) {
-                    check.holds("mistaken", x.heap(a) != x.heap(b) || m.lines[0].pairs[a][b]);
+                    check.holds("mistaken", row[a] != row[b] || m.lines[0].pairs[a][b]);
                 }
             }
             check.due("as many", used, fewest);
@@ -114,14 +117,17 @@ public final class SearchTests {
 
     /** Lines without three letters mistaken for one another are the hardest to put in heaps. */
     private static void threeless() {
-        NeverMistaken x = new NeverMistaken();
         for (int i = 0; i < 40; i++) {
+            anew();
             int n = 21 + i % 4;
+            int[] near = new int[n];
             x.net(0, n);
             for (int t = 0; t < 400; t++) {
                 int a = random.nextInt(n);
                 int b = random.nextInt(n);
-                if (a != b && (x.about(0, 10 + a) & x.about(0, 10 + b)) == 0) {
+                if (a != b && (near[a] & near[b]) == 0 && (near[a] >> b & 1) == 0) {
+                    near[a] |= 1 << b;
+                    near[b] |= 1 << a;
                     x.mistake(0, a, b, true);
                 }
             }
@@ -131,7 +137,7 @@ public final class SearchTests {
     }
 
     private static void waysOfMany() {
-        NeverMistaken x = new NeverMistaken();
+        anew();
         for (int n = 4; n <= 24; n++) {
             x.ring(0, n);
             check.due("ways of a ring of " + n, x.ways(0, 1), n % 2 == 0 ? 2 : n);
@@ -144,17 +150,15 @@ public final class SearchTests {
         x.either(1, 2, 1);
         check.due("four rings", x.ways(1, 1), 625);
         check.due("their size", x.most(1, 1), 12);
-        Model m = new Model();
         for (int i = 0; i < 60; i++) {
-            randomLine(x, m, 20, 10 + i);
+            randomLine(20, 10 + i);
             check.due("ways of 20 letters", x.ways(0, 1), m.ways(0, 1));
         }
     }
 
     private static void listsOfSixteen() {
-        NeverMistaken x = new NeverMistaken();
-        Model m = new Model();
         for (int i = 0; i < 60; i++) {
+            anew();
             StringBuilder text = new StringBuilder();
             for (int a = 0; a < 16; a++) {
                 text.append(a > 0 ? ";" : "").append((char) ('a' + random.nextInt(8)));
