@@ -113,6 +113,19 @@ public final class BoundaryOfRates extends Boundary {
         due("9 letters have length 1 alone", x.best(2), 1);
     }
 
+    @Sentence(of = 22, says = "The length of the BEST of a LINE")
+    static void lengthTwoOfFiveToEightLetters() {
+        // A ring of five, and letters mistaken with all: 5 words of length 2 always beat 2 of length 1.
+        StringBuilder text = new StringBuilder("ab;bc;cd;de;ea");
+        for (int n = 5; n <= 24; n++) {
+            NeverMistaken x = new NeverMistaken();
+            due(n + " letters", Check.tell(x, 0, text.toString()), n);
+            due("best of " + n, x.best(0), n <= 8 ? 2 : 1);
+            due("length 2 of " + n, x.most(0, 2), n <= 8 ? 5 : FULL);
+            text.append(";abcde");
+        }
+    }
+
     @Sentence(of = 22, says = "RANGE")
     static void bestOfNoSuchLine() {
         NeverMistaken x = new NeverMistaken();
