@@ -126,6 +126,21 @@ public final class BoundaryOfRates extends Boundary {
         }
     }
 
+    @Sentence(of = 22, says = "The length of the BEST of a LINE")
+    static void lengthOneAloneOfNineLetters() {
+        // Lines whose first 64 of 81 words, held as if they were all, would make length 2 the best.
+        int[][] lines = {
+            {0, 1, 1, 3, 2, 3, 0, 4, 1, 4, 3, 4, 0, 5, 1, 5, 3, 5, 4, 5, 0, 7, 2, 7, 0, 8, 1, 8, 2, 8, 3, 8, 5, 8, 6, 8},
+            {0, 1, 1, 4, 3, 4, 0, 5, 1, 5, 3, 5, 0, 6, 1, 6, 4, 6, 1, 7, 2, 7, 4, 7, 6, 7, 0, 8, 1, 8, 2, 8, 7, 8},
+            {0, 1, 0, 2, 2, 4, 1, 5, 3, 5, 0, 6, 1, 6, 2, 6, 5, 6, 1, 7, 3, 7, 4, 7, 1, 8, 4, 8, 5, 8}};
+        for (int[] pairs : lines) {
+            NeverMistaken x = new NeverMistaken();
+            Check.net(x, 0, 9, pairs);
+            due("81 words", x.most(0, 2), FULL);
+            due("best", x.best(0), 1);
+        }
+    }
+
     @Sentence(of = 22, says = "RANGE")
     static void bestOfNoSuchLine() {
         NeverMistaken x = new NeverMistaken();
