@@ -956,10 +956,19 @@ public final class NeverMistaken {
 
     /** Puts the letters of a line in the fewest heaps, by exact search. */
     private static final class Cover {
+        private static final int SLOTS = 512;
+        private static final int SPREAD = -1640531535;
+        private static final int LETTER_BITS = 0xFFFFFF;
+
         final int[] near = new int[LETTERS];
-        /** Of each heap the letters that are mistaken with all in it, and how many are in it. */
+        /** As near, but the letters of a heap begun are as one: its first. */
+        final int[] joined = new int[LETTERS];
+        /** Of each heap begun its first letter, and the letters that are mistaken with all in it. */
+        final int[] first = new int[LETTERS];
         final int[] fits = new int[LETTERS];
-        final int[] held = new int[LETTERS];
+        /** Sets that would not go in so many heaps: which try it was, how many heaps, the letters. */
+        final long[] failed = new long[SLOTS];
+        long tries = 0L;
         int letters = 0;
         /** How many heaps there may be, and how many letters one of them can hold. */
         int limit = 0;
@@ -973,7 +982,7 @@ public final class NeverMistaken {
                 near[a] = line.near[a];
             }
             limit = Math.max(1, largestCode);
-            while (limit < letters && !fill((1 << letters) - 1, 0, 0)) {
+            while (limit < letters && !canEnd((1 << letters) - 1, 0)) {
                 limit++;
             }
             return limit;
@@ -982,90 +991,142 @@ public final class NeverMistaken {
         /** The least row with as many heaps as fewest() found. */
         void leastRow(int[] row) {
             int left = (1 << letters) - 1;
-            int used = 0;
+            int begun = 0;
             for (int a = 0; a < letters; a++) {
                 left &= ~(1 << a);
-                int chosen = used;
-                for (int h = 0; h < used && chosen == used; h++) {
-                    layRow(row, a);
-                    if ((fits[h] >>> a & 1) != 0) {
-                        add(a, h);
-                        chosen = fill(left, used, 0) ? h : used;
-                    }
+                int h = leastHeap(a, left, begun);
+                if (h == begun) {
+                    first[h] = a;
+                    fits[h] = near[a];
+                    begun++;
                 }
-                row[a] = chosen;
-                used = Math.max(used, chosen + 1);
+                row[a] = h;
             }
         }
 
-        /** Fills the heaps from the first letters of a row alone. */
-        private void layRow(int[] row, int first) {
-            for (int h = 0; h < letters; h++) {
-                fits[h] = -1;
-                held[h] = 0;
+        /** Puts a letter in the first heap begun that leaves a way to end; answers begun if there is none. */
+        private int leastHeap(int a, int left, int begun) {
+            for (int h = 0; h < begun; h++) {
+                int before = fits[h];
+                if ((before >>> a & 1) != 0) {
+                    fits[h] = before & near[a];
+                    if (canEnd(left, begun)) {
+                        return h;
+                    }
+                    fits[h] = before;
+                }
             }
-            for (int a = 0; a < first; a++) {
-                add(a, row[a]);
-            }
+            return begun;
         }
 
-        private void add(int a, int h) {
-            fits[h] &= near[a];
-            held[h]++;
+        /** Whether the letters left can go in the heaps begun and new ones within the limit. */
+        private boolean canEnd(int left, int begun) {
+            int all = left;
+            for (int b = 0; b < letters; b++) {
+                joined[b] = near[b] & left;
+            }
+            for (int h = 0; h < begun; h++) {
+                int a = first[h];
+                int others = fits[h] & left;
+                all |= 1 << a;
+                joined[a] = others;
+                for (int b = 0; b < letters; b++) {
+                    joined[b] |= (others >>> b & 1) << a;
+                }
+            }
+            tries++;
+            return covers(all, limit, 0);
         }
 
-        /** Whether the letters left can go in the used heaps and new ones within the limit. */
-        private boolean fill(int left, int used, int depth) {
+        /** Whether these can go in so many heaps. */
+        private boolean covers(int these, int heaps, int depth) {
+            int left = withoutEasy(these, heaps);
             if (left == 0) {
                 return true;
             }
-            if (depth > LETTERS || !hasRoom(left, used)) {
+            if (Integer.bitCount(left) > heaps * widest || hasFailed(left, heaps) || apart(left) > heaps) {
                 return false;
             }
-            int once = 0;
-            int twice = 0;
-            for (int h = 0; h < used; h++) {
-                twice |= once & fits[h];
-                once |= fits[h];
+            int a = loneliest(left);
+            if (grow(left, joined[a] & left, 0, 1 << a, heaps, depth + 1)) {
+                return true;
             }
-            int homeless = left & ~once;
-            int tied = left & ~twice;
-            int a = loneliest(homeless != 0 ? homeless : tied != 0 ? tied : left, left);
-            int rest = left & ~(1 << a);
-            for (int h = 0; h < used; h++) {
-                int before = fits[h];
-                if ((before >>> a & 1) != 0) {
-                    add(a, h);
-                    if (fill(rest, used, depth + 1)) {
+            failed[slot(left)] = tries << 32 | (long) heaps << 24 | left;
+            return false;
+        }
+
+        /**
+         * Tries each heap that has these letters and others of the open ones, and to which none can be
+         * added: a lesser heap is never needed. Past are the letters whose heaps have all been tried.
+         */
+        private boolean grow(int left, int open, int past, int heap, int heaps, int depth) {
+            if (open == 0) {
+                return past == 0 && covers(left & ~heap, heaps - 1, depth);
+            }
+            if (depth > LETTERS) {
+                return false;
+            }
+            int stillOpen = open;
+            int nowPast = past;
+            int turns = open & ~joined[mostOpen(open | past, open)];
+            for (int a = 0; a < letters; a++) {
+                if ((turns >>> a & 1) != 0) {
+                    int more = joined[a];
+                    if (grow(left, stillOpen & more, nowPast & more, heap | 1 << a, heaps, depth + 1)) {
                         return true;
                     }
-                    fits[h] = before;
-                    held[h]--;
+                    stillOpen &= ~(1 << a);
+                    nowPast |= 1 << a;
                 }
             }
-            if (used >= limit) {
-                return false;
-            }
-            fits[used] = near[a];
-            held[used] = 1;
-            return fill(rest, used + 1, depth + 1);
+            return false;
         }
 
-        private boolean hasRoom(int left, int used) {
-            int room = (limit - used) * widest;
-            for (int h = 0; h < used; h++) {
-                room += Math.min(widest - held[h], Integer.bitCount(fits[h] & left));
+        /** Drops letters that fewer others can't be with than there are heaps: one stays open for them. */
+        private int withoutEasy(int these, int heaps) {
+            int left = these;
+            boolean more = true;
+            for (int sweep = 0; sweep < LETTERS && more; sweep++) {
+                int before = left;
+                for (int a = 0; a < letters; a++) {
+                    if ((left >>> a & 1) != 0 && Integer.bitCount(left & ~joined[a]) <= heaps) {
+                        left &= ~(1 << a);
+                    }
+                }
+                more = left != before;
             }
-            return room >= Integer.bitCount(left);
+            return left;
         }
 
-        /** Of these the letter with the fewest left that it could share a heap with. */
-        private int loneliest(int these, int left) {
+        /** Sets that follow one another are much alike, so their bits are spread. */
+        private static int slot(int left) {
+            return left * SPREAD >>> 23 & SLOTS - 1;
+        }
+
+        private boolean hasFailed(int left, int heaps) {
+            long kept = failed[slot(left)];
+            return kept >>> 32 == tries && (kept & LETTER_BITS) == left && (kept >>> 24 & 255L) >= heaps;
+        }
+
+        /** How many that all need a heap of their own a plain try finds. */
+        private int apart(int these) {
+            int left = these;
+            int apart = 0;
+            for (int turn = 0; turn < LETTERS && left != 0; turn++) {
+                int a = loneliest(left);
+                left &= ~(joined[a] | 1 << a);
+                apart++;
+            }
+            return apart;
+        }
+
+        /** Of these the letter with the fewest that it could share a heap with. */
+        private int loneliest(int these) {
             int loneliest = 0;
             int fewest = LETTERS + 1;
             for (int a = 0; a < letters; a++) {
                 if ((these >>> a & 1) != 0) {
-                    int shared = Integer.bitCount(near[a] & left);
+                    int shared = Integer.bitCount(joined[a] & these);
                     if (shared < fewest) {
                         fewest = shared;
                         loneliest = a;
@@ -1073,6 +1134,22 @@ public final class NeverMistaken {
                 }
             }
             return loneliest;
+        }
+
+        /** Of these the letter with the most open ones that it could share a heap with. */
+        private int mostOpen(int these, int open) {
+            int mostOpen = 0;
+            int most = -1;
+            for (int a = 0; a < letters; a++) {
+                if ((these >>> a & 1) != 0) {
+                    int shared = Integer.bitCount(joined[a] & open);
+                    if (shared > most) {
+                        most = shared;
+                        mostOpen = a;
+                    }
+                }
+            }
+            return mostOpen;
         }
     }
 
